@@ -303,16 +303,21 @@ public final class MaskLayers {
         private final int[][] values;
         /** For each stripe a bit for each layer that it has. */
         private final int[] there;
-        private int width = 1;
-        private int height = 1;
-        private int step = 1;
-        private int foreScale = 1;
-        private int backScale = 1;
+        /** For each layer its SCALE; MASK and REST count as layers of blocks of one sample. */
+        private final int[] scales;
+        /** For each layer how many blocks stand side by side. */
+        private final int[] columns;
+        private int width;
+        private int height;
+        private int step;
         private int count;
 
         Layers(int samples) {
             values = new int[REST + 1][samples];
             there = new int[LONGEST_SIDE];
+            scales = new int[] {1, 1, 1, 1};
+            columns = new int[REST + 1];
+            step = 1;
         }
 
         void forget() {
@@ -324,8 +329,11 @@ public final class MaskLayers {
             this.width = width;
             this.height = height;
             this.step = step;
-            this.foreScale = foreScale;
-            this.backScale = backScale;
+            scales[FORE] = foreScale;
+            scales[BACK] = backScale;
+            for (int layer = BACK; layer <= REST; layer++) {
+                columns[layer] = parts(width, scales[layer]);
+            }
         }
 
         void add(int stripe, int layer) {
@@ -355,40 +363,32 @@ public final class MaskLayers {
 
         /** The row behind a stripe's last one. */
         int bottomOf(int stripe) {
-            return Math.min(topOf(stripe) + step, height);
+            return Math.min(stripe * step + step, height);
         }
 
-        /** MASK and REST have a value for each sample, so they count as layers of blocks of one. */
-        int scaleOf(int layer) {
-            return layer == FORE ? foreScale : layer == BACK ? backScale : 1;
-        }
-
-        int columnsOf(int layer) {
-            return parts(width, scaleOf(layer));
-        }
-
+        /** How many blocks of a layer stand one above another in a stripe. */
         int rowsOf(int stripe, int layer) {
-            return parts(bottomOf(stripe) - topOf(stripe), scaleOf(layer));
+            return parts(Math.min(step, height - stripe * step), scales[layer]);
         }
 
         /** Where a stripe's values begin, in each of the layers. */
         int startOf(int stripe) {
-            return topOf(stripe) * width;
+            return stripe * step * width;
         }
 
         /** The place behind a stripe's last value in a layer. */
         int endOf(int stripe, int layer) {
-            return startOf(stripe) + columnsOf(layer) * rowsOf(stripe, layer);
+            return startOf(stripe) + columns[layer] * rowsOf(stripe, layer);
         }
 
         /** The place of a sample's value in a layer. */
         int placeOf(int layer, int x, int y) {
-            int scale = scaleOf(layer);
+            int scale = scales[layer];
             if (scale < 1) {
                 return 0;
             }
-            int stripe = stripeOf(y);
-            return startOf(stripe) + (y - topOf(stripe)) / scale * columnsOf(layer) + x / scale;
+            int top = stripeOf(y) * step;
+            return top * width + (y - top) / scale * columns[layer] + x / scale;
         }
 
         int valueAt(int layer, int x, int y) {
@@ -437,14 +437,16 @@ public final class MaskLayers {
         private void makeStripe(int stripe, boolean exact) {
             int inFront = takeMask(stripe);
             if (inFront < layers.endOf(stripe, MASK) - layers.startOf(stripe)) {
-                makeBlocks(stripe, BACK);
+                fillBlocks(stripe, BACK, makeBlocks(stripe, BACK));
+                layers.add(stripe, BACK);
             }
             if (inFront > 0) {
                 layers.add(stripe, MASK);
-                makeBlocks(stripe, FORE);
+                fillBlocks(stripe, FORE, makeBlocks(stripe, FORE));
+                layers.add(stripe, FORE);
             }
-            if (exact) {
-                makeRest(stripe);
+            if (exact && makeRest(stripe)) {
+                layers.add(stripe, REST);
             }
         }
 
@@ -459,10 +461,11 @@ public final class MaskLayers {
             return inFront;
         }
 
-        private void makeBlocks(int stripe, int layer) {
+        /** Gives blocks their means, NONE to those to be FILLED: the first mean. */
+        private int makeBlocks(int stripe, int layer) {
             int[] blocks = layers.values[layer];
             int rows = layers.rowsOf(stripe, layer);
-            int columns = layers.columnsOf(layer);
+            int columns = layers.columns[layer];
             int place = layers.startOf(stripe);
             int first = NONE;
             for (int row = 0; row < rows; row++) {
@@ -472,13 +475,12 @@ public final class MaskLayers {
                     place++;
                 }
             }
-            fillBlocks(stripe, layer, first);
-            layers.add(stripe, layer);
+            return first;
         }
 
         /** The mean of those samples of a block that the layer is of; NONE if there are none. */
         private int meanOfBlock(int stripe, int layer, int column, int row) {
-            int scale = layers.scaleOf(layer);
+            int scale = layers.scales[layer];
             int top = layers.topOf(stripe) + row * scale;
             int bottom = Math.min(top + scale, layers.bottomOf(stripe));
             int left = column * scale;
@@ -505,7 +507,7 @@ public final class MaskLayers {
         private void fillBlocks(int stripe, int layer, int first) {
             int[] blocks = layers.values[layer];
             int rows = layers.rowsOf(stripe, layer);
-            int columns = layers.columnsOf(layer);
+            int columns = layers.columns[layer];
             int place = layers.startOf(stripe);
             for (int row = 0; row < rows; row++) {
                 for (int column = 0; column < columns; column++) {
@@ -530,21 +532,22 @@ public final class MaskLayers {
             return above == NONE ? left : middle(left, above);
         }
 
-        private void makeRest(int stripe) {
+        /** Makes a stripe's REST: whether it is needed. */
+        private boolean makeRest(int stripe) {
             boolean needed = false;
             int place = layers.startOf(stripe);
             int bottom = layers.bottomOf(stripe);
             for (int y = layers.topOf(stripe); y < bottom; y++) {
                 for (int x = 0; x < layers.width; x++) {
-                    int rest = difference(colours[place], layers.joinedAt(x, y));
+                    int layer = masked[place] == 1 ? FORE : BACK;
+                    int joined = layers.values[layer][layers.placeOf(layer, x, y)];
+                    int rest = difference(colours[place], joined);
                     layers.values[REST][place] = rest;
                     needed = needed || rest != 0;
                     place++;
                 }
             }
-            if (needed) {
-                layers.add(stripe, REST);
-            }
+            return needed;
         }
     }
 
@@ -620,8 +623,8 @@ public final class MaskLayers {
             bytes.append(layers.width);
             bytes.append(layers.height);
             bytes.append(layers.step);
-            bytes.append(layers.foreScale);
-            bytes.append(layers.backScale);
+            bytes.append(layers.scales[FORE]);
+            bytes.append(layers.scales[BACK]);
         }
 
         private void writeLayer(int stripe, int layer) {
@@ -716,7 +719,14 @@ public final class MaskLayers {
         int readAll() {
             place = 0;
             layers.forget();
-            if (readHead() && readStripes()) {
+            boolean fine = readHead();
+            for (int stripe = 0; fine && stripe < layers.stripes(); stripe++) {
+                fine = readStripe(stripe);
+            }
+            if (fine && place < bytes.count) {
+                fine = refuse(place);
+            }
+            if (fine) {
                 return layers.count;
             }
             layers.forget();
@@ -732,7 +742,7 @@ public final class MaskLayers {
         private int take(int least, int most) {
             int b = place < bytes.count ? bytes.row[place] : NONE;
             if (b < least || b > most) {
-                refuse(place);
+                refusedAt = place;
                 return NONE;
             }
             place++;
@@ -748,15 +758,6 @@ public final class MaskLayers {
             }
             layers.shape(head[2], head[3], head[4], head[5], head[6]);
             return true;
-        }
-
-        private boolean readStripes() {
-            for (int stripe = 0; stripe < layers.stripes(); stripe++) {
-                if (!readStripe(stripe)) {
-                    return false;
-                }
-            }
-            return place >= bytes.count || refuse(place);
         }
 
         private boolean readStripe(int stripe) {
@@ -811,7 +812,10 @@ public final class MaskLayers {
             if (kind == PLAIN && number != plainBytes(layer, end - start)) {
                 return refuse(numberAt);
             }
-            if (!readValues(kind, layer, start, end)) {
+            boolean fine = kind == RUNS ? readRuns(layer, start, end)
+                : layer == MASK ? readBits(start, end)
+                : readColours(layer, start, end);
+            if (!fine) {
                 return false;
             }
             if (place - numberAt - 2 != number) {
@@ -819,13 +823,6 @@ public final class MaskLayers {
             }
             layers.add(stripe, layer);
             return true;
-        }
-
-        private boolean readValues(int kind, int layer, int start, int end) {
-            if (kind == RUNS) {
-                return readRuns(layer, start, end);
-            }
-            return layer == MASK ? readBits(start, end) : readColours(layer, start, end);
         }
 
         private boolean readRuns(int layer, int start, int end) {

@@ -62,6 +62,11 @@ public final class BytesTest {
         more.write();
         Checks.written("9: 256 are two", more, 77, 76, 16, 16, 24, 1, 1,
             160, 1, 8, 0, 255, 0, 0, 0, 1, 0, 0, 0, 175);
+        more.put(0, 0, 1, 9);
+        more.run(1, 1, true);
+        more.write();
+        Checks.written("9: each run may have 255", more, 77, 76, 16, 16, 24, 1, 1,
+            160, 1, 8, 0, 1, 0, 0, 9, 255, 0, 0, 0, 175);
     }
 
     private static void masks() {
@@ -169,7 +174,8 @@ public final class BytesTest {
         Checks.noRoom("12: no room", () -> page.pass(0, 1740));
         Checks.noArgument("12: n goes before room", () -> page.pass(0, -1));
         Checks.is("12: a call that throws changes nothing", page.told(5), 5220);
-        Checks.is("12: as many as there is room", page.pass(0, 1179), 1179);
+        Checks.is("12: as many as there is room, less one", page.pass(0, 1178), 1178);
+        Checks.is("11: the last but one", page.feed(0), 6399);
         Checks.noRoom("12: one lacks", () -> page.pass(1738, 2));
         Checks.is("12: n is more, but there is but one", page.pass(1739, 2), 1);
         Checks.is("12: 6,400", page.told(5), 6400);
@@ -180,6 +186,16 @@ public final class BytesTest {
         Checks.is("13: the last one", page.alter(6399, 1), 175);
         Checks.noPlace("13: behind it", () -> page.alter(6400, 1));
         Checks.is("14: a byte behind all", page.read(), -1 - 1740);
+        page.clear();
+        page.run(1, 1, true);
+        page.write();
+        for (int k = 0; k < 399; k++) {
+            page.pass(0, 16);
+        }
+        for (int n = 6385; n <= 6400; n++) {
+            Checks.is("11: up to 6,400", page.feed(1), n);
+        }
+        Checks.noRoom("11: beyond 6,400", () -> page.feed(1));
     }
 
     private static void alter() {

@@ -122,6 +122,12 @@ public final class LayersTest {
         Checks.is("7: the BACK's own scale", page.filled(0, 4, 1), true);
         Checks.is("7: the BACK's own scale", page.filled(0, 4, 0), false);
         Checks.is("7: no FORE in the last stripe", page.filled(2, 0, 4), false);
+        page.mask(0, 0, 1, true);
+        page.mask(4, 1, 2, false);
+        page.run(2, 1, false);
+        Checks.is("7: no longer", page.filled(2, 0, 0), false);
+        Checks.is("7: no longer", page.filled(0, 4, 1), false);
+        Checks.is("7: from now on", page.filled(2, 4, 1), true);
     }
 
     private static void rest() {
