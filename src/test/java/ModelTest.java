@@ -3,8 +3,10 @@ import java.util.List;
 import java.util.Random;
 
 /**
- * Promises 5 to 9, 14 and 15 on many pages, against a second program that was written from the
- * document alone: it holds each stripe by itself, value by value, and reads by exceptions.
+ * Promises 2, 3, 5 to 10 and 12 to 15 on many pages, against a second, plainer program that holds
+ * each stripe by itself, value by value, and reads by exceptions. It shares the class's reading of
+ * the document, so it finds slips, not misreadings. An object gets more than 512 calls here: the
+ * document leaves their answers free, but this class does not count its calls.
  */
 public final class ModelTest {
     private static final int PAGES = 600;
