@@ -6,15 +6,21 @@ final class Checks {
 
     private static int made = 0;
     private static int wrong = 0;
+    private static String about = "";
 
     private Checks() {
+    }
+
+    /** What is checked from here on: a promise, and a sentence of the document that bears on it. */
+    static void says(int promise, String sentence) {
+        about = "promise " + promise + " (" + sentence + "): ";
     }
 
     static void is(String what, long got, long want) {
         made++;
         if (got != want) {
             wrong++;
-            System.out.println(what + " answered " + got + ", due is " + want);
+            System.out.println(about + what + " answered " + got + ", due is " + want);
         }
     }
 
@@ -34,7 +40,7 @@ final class Checks {
             got = "threw " + e;
         }
         wrong++;
-        System.out.println(what + " " + got + ", due is " + want.getSimpleName());
+        System.out.println(about + what + " " + got + ", due is " + want.getSimpleName());
     }
 
     static void noState(String what, Call call) {
@@ -58,6 +64,13 @@ final class Checks {
         is(what + " told(4)", page.told(4), want.length);
         for (int i = 0; i < Math.min(want.length, page.told(4)); i++) {
             is(what + " byteAt(" + i + ")", page.byteAt(i), want[i]);
+        }
+    }
+
+    /** Whether what was WRITTEN has these bytes from a place on. */
+    static void writtenFrom(String what, MaskLayers page, int place, int... want) {
+        for (int i = 0; i < want.length; i++) {
+            is(what + " byteAt(" + (place + i) + ")", page.byteAt(place + i), want[i]);
         }
     }
 
