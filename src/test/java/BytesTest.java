@@ -5,11 +5,9 @@ public final class BytesTest {
         plainAndRuns();
         longRuns();
         masks();
-        twoByteNumber();
         writtenBytesStay();
         feed();
         pass();
-        passWithoutRoom();
         alter();
         Checks.end();
     }
@@ -97,21 +95,6 @@ public final class BytesTest {
             161, 0, 2, 0, 255, 255, 162, 1, 4, 0, 2, 0, 0, 0, 175);
     }
 
-    private static void twoByteNumber() {
-        MaskLayers page = new MaskLayers(24, 24);
-        scatter(page);
-        page.run(1, 1, true);
-        Checks.is("9: 576 colours", page.write(), 7 + 4 + 1728 + 1);
-        Checks.is("9: the lower byte first", page.byteAt(9), 1728 % 256);
-        Checks.is("9: then the upper", page.byteAt(10), 1728 / 256);
-    }
-
-    private static void scatter(MaskLayers page) {
-        for (int i = 0; i < page.told(0) * page.told(1); i++) {
-            page.put(i % page.told(0), i / page.told(0), 1, i * 77731 & 0xFFFFFF);
-        }
-    }
-
     private static void writtenBytesStay() {
         MaskLayers page = new MaskLayers(2, 1);
         page.put(0, 0, 2, 0x010203);
@@ -161,41 +144,6 @@ public final class BytesTest {
         Checks.noPlace("12: no byte goes first", () -> page.pass(16, -1));
         Checks.noArgument("12: n below", () -> page.pass(0, -1));
         Checks.is("12: a call that throws changes nothing", page.told(5), 5);
-    }
-
-    private static void passWithoutRoom() {
-        MaskLayers page = new MaskLayers(24, 24);
-        scatter(page);
-        page.run(1, 1, true);
-        page.write();
-        for (int k = 1; k <= 3; k++) {
-            Checks.is("12: all", page.pass(0, 1740), 1740);
-        }
-        Checks.noRoom("12: no room", () -> page.pass(0, 1740));
-        Checks.noArgument("12: n goes before room", () -> page.pass(0, -1));
-        Checks.is("12: a call that throws changes nothing", page.told(5), 5220);
-        Checks.is("12: as many as there is room, less one", page.pass(0, 1178), 1178);
-        Checks.is("11: the last but one", page.feed(0), 6399);
-        Checks.noRoom("12: one lacks", () -> page.pass(1738, 2));
-        Checks.is("12: n is more, but there is but one", page.pass(1739, 2), 1);
-        Checks.is("12: 6,400", page.told(5), 6400);
-        Checks.is("12: none needs no room", page.pass(0, 0), 0);
-        Checks.noRoom("12: one more", () -> page.pass(0, 1));
-        Checks.noRoom("11: one more", () -> page.feed(1));
-        Checks.noArgument("11: no byte goes first", () -> page.feed(256));
-        Checks.is("13: the last one", page.alter(6399, 1), 175);
-        Checks.noPlace("13: behind it", () -> page.alter(6400, 1));
-        Checks.is("14: a byte behind all", page.read(), -1 - 1740);
-        page.clear();
-        page.run(1, 1, true);
-        page.write();
-        for (int k = 0; k < 399; k++) {
-            page.pass(0, 16);
-        }
-        for (int n = 6385; n <= 6400; n++) {
-            Checks.is("11: up to 6,400", page.feed(1), n);
-        }
-        Checks.noRoom("11: beyond 6,400", () -> page.feed(1));
     }
 
     private static void alter() {

@@ -5,8 +5,8 @@ import java.util.Random;
 /**
  * Promises 2, 3, 5 to 10 and 12 to 15 on many pages, against a second, plainer program that holds
  * each stripe by itself, value by value, and reads by exceptions. It shares the class's reading of
- * the document, so it finds slips, not misreadings. An object gets more than 512 calls here: the
- * document leaves their answers free, but this class does not count its calls.
+ * the document, so it finds slips, not misreadings. A page is made anew whenever its object would
+ * get more than the 512 calls that the document promises answers for.
  */
 public final class ModelTest {
     private static final int PAGES = 600;
@@ -349,106 +349,176 @@ public final class ModelTest {
         }
     }
 
-    private static void onePage(Random random, int number) {
-        int width = 1 + random.nextInt(24);
-        int height = 1 + random.nextInt(24);
-        MaskLayers page = new MaskLayers(width, height);
-        int[][] colours = new int[height][width];
-        boolean[][] masked = new boolean[height][width];
-        paint(random, page, colours, masked);
-        int step = random.nextInt(3) == 0 ? 24 : 1 + random.nextInt(24);
-        page.stripe(step);
-        int fore = 1 + random.nextInt(8);
-        int back = 1 + random.nextInt(8);
-        boolean exact = random.nextBoolean();
-        Model model = modelOf(colours, masked, step, fore, back, exact);
-        String name = "page " + number;
-        Checks.is("5: " + name, page.run(fore, back, exact), model.layers());
-        compareLayers(name, page, model);
-        List<Integer> bytes = bytesOf(model);
-        Checks.is("9: " + name, page.write(), bytes.size());
-        for (int i = 0; i < Math.min(bytes.size(), page.told(4)); i++) {
-            Checks.is("10: " + name + " byte " + i, page.byteAt(i), bytes.get(i));
-        }
-        Checks.is("12: " + name, page.pass(0, bytes.size()), bytes.size());
-        Checks.is("14: " + name, page.read(), model.layers());
-        for (int y = 0; y < height; y++) {
-            for (int x = 0; x < width; x++) {
-                Checks.is("15: " + name, page.at(x, y), exact ? colours[y][x] : model.joined(x, y));
+    /** A page and its run, of which objects can be made again and again, with some 65 calls each. */
+    private static final class Page {
+        final int width;
+        final int height;
+        final int step;
+        final int fore;
+        final int back;
+        final boolean exact;
+        final int[][] colours;
+        final boolean[][] masked;
+        /** Each one x, y, n, and a colour, or -1 to mask and -2 not to. */
+        final List<int[]> strokes = new ArrayList<>();
+
+        Page(Random random) {
+            width = 1 + random.nextInt(24);
+            height = 1 + random.nextInt(24);
+            step = random.nextInt(3) == 0 ? 24 : 1 + random.nextInt(24);
+            fore = 1 + random.nextInt(8);
+            back = 1 + random.nextInt(8);
+            exact = random.nextBoolean();
+            colours = new int[height][width];
+            masked = new boolean[height][width];
+            int[] palette = {0, 0xFFFFFF, random.nextInt(1 << 24), random.nextInt(1 << 24)};
+            int many = random.nextInt(60);
+            for (int k = 0; k < many; k++) {
+                int colour = random.nextInt(3) == 0 ? random.nextInt(1 << 24) : palette[random.nextInt(4)];
+                int what = random.nextBoolean() ? colour : random.nextInt(3) > 0 ? -1 : -2;
+                strokes.add(new int[] {random.nextInt(width), random.nextInt(height), 1 + random.nextInt(30), what});
             }
         }
+
+        static int make(MaskLayers made, int[] s) {
+            return s[3] >= 0 ? made.put(s[0], s[1], s[2], s[3]) : made.mask(s[0], s[1], s[2], s[3] == -1);
+        }
+
+        /** What a stroke changes on the model's side. */
+        int paint(int[] s) {
+            int changed = 0;
+            for (int x = s[0]; x < Math.min(width, s[0] + s[2]); x++) {
+                int colour = s[3] >= 0 ? s[3] : colours[s[1]][x];
+                boolean on = s[3] >= 0 ? masked[s[1]][x] : s[3] == -1;
+                changed += colour != colours[s[1]][x] || on != masked[s[1]][x] ? 1 : 0;
+                colours[s[1]][x] = colour;
+                masked[s[1]][x] = on;
+            }
+            return changed;
+        }
+
+        MaskLayers ran() {
+            MaskLayers made = new MaskLayers(width, height);
+            for (int[] s : strokes) {
+                make(made, s);
+            }
+            made.stripe(step);
+            made.run(fore, back, exact);
+            return made;
+        }
+
+        MaskLayers written() {
+            MaskLayers made = ran();
+            made.write();
+            return made;
+        }
+
+        MaskLayers fed() {
+            MaskLayers made = written();
+            made.pass(0, 9999);
+            return made;
+        }
+    }
+
+    private static void onePage(Random random, int number) {
+        Page page = new Page(random);
+        String name = "page " + number;
+        MaskLayers made = new MaskLayers(page.width, page.height);
+        for (int[] s : page.strokes) {
+            Checks.is("2, 3: " + name, Page.make(made, s), page.paint(s));
+        }
+        Model model = modelOf(page.colours, page.masked, page.step, page.fore, page.back, page.exact);
+        List<Integer> bytes = bytesOf(model);
+        made.stripe(page.step);
+        Checks.is("5: " + name, made.run(page.fore, page.back, page.exact), model.layers());
+        Checks.is("9: " + name, made.write(), bytes.size());
+        Checks.is("12: " + name, made.pass(0, bytes.size()), bytes.size());
+        Checks.is("14: " + name, made.read(), model.layers());
+        compareLayers(name, page, model);
+        compareBytes(name, page, bytes);
+        compareRead(name, page, model);
         spoil(random, name, page, bytes);
     }
 
-    private static void paint(Random random, MaskLayers page, int[][] colours, boolean[][] masked) {
-        int[] palette = {0, 0xFFFFFF, random.nextInt(1 << 24), random.nextInt(1 << 24)};
-        int strokes = random.nextInt(60);
-        for (int k = 0; k < strokes; k++) {
-            int x = random.nextInt(page.told(0));
-            int y = random.nextInt(page.told(1));
-            int n = 1 + random.nextInt(30);
-            int colour = random.nextInt(3) == 0 ? random.nextInt(1 << 24) : palette[random.nextInt(4)];
-            boolean on = random.nextInt(3) > 0;
-            boolean colouring = random.nextBoolean();
-            int changed = 0;
-            for (int i = x; i < Math.min(page.told(0), x + n); i++) {
-                changed += (colouring ? colours[y][i] != colour : masked[y][i] != on) ? 1 : 0;
-                colours[y][i] = colouring ? colour : colours[y][i];
-                masked[y][i] = colouring ? masked[y][i] : on;
-            }
-            Checks.is("2, 3: a stroke", colouring ? page.put(x, y, n, colour) : page.mask(x, y, n, on), changed);
+    private static void compareLayers(String name, Page page, Model model) {
+        MaskLayers made = null;
+        for (int i = 0; i < page.width * page.height; i++) {
+            made = i % 60 == 0 ? page.ran() : made;
+            compareSample(name, made, model, i % page.width, i / page.width);
         }
     }
 
-    private static void compareLayers(String name, MaskLayers page, Model model) {
-        for (int y = 0; y < model.height; y++) {
-            for (int x = 0; x < model.width; x++) {
-                for (int layer = 0; layer < 4; layer++) {
-                    Checks.is("6: " + name, page.layer(layer, x, y), model.value(layer, x, y));
-                }
-                for (int layer = 0; layer < 4; layer += 2) {
-                    boolean[] filled = model.at(y).filled[layer];
-                    Checks.is("7: " + name, page.filled(layer, x, y), filled != null && filled[model.block(layer, x, y)]);
-                }
-                Checks.is("8: " + name, page.joined(x, y), model.joined(x, y));
+    private static void compareSample(String name, MaskLayers made, Model model, int x, int y) {
+        for (int layer = 0; layer < 4; layer++) {
+            Checks.is("6: " + name, made.layer(layer, x, y), model.value(layer, x, y));
+        }
+        for (int layer = 0; layer < 4; layer += 2) {
+            boolean[] filled = model.at(y).filled[layer];
+            Checks.is("7: " + name, made.filled(layer, x, y), filled != null && filled[model.block(layer, x, y)]);
+        }
+        Checks.is("8: " + name, made.joined(x, y), model.joined(x, y));
+    }
+
+    private static void compareBytes(String name, Page page, List<Integer> bytes) {
+        MaskLayers made = null;
+        for (int i = 0; i < bytes.size(); i++) {
+            made = i % 400 == 0 ? page.written() : made;
+            Checks.is("10: " + name + " byte " + i, made.byteAt(i), bytes.get(i));
+        }
+    }
+
+    private static void compareRead(String name, Page page, Model model) {
+        MaskLayers made = null;
+        for (int i = 0; i < page.width * page.height; i++) {
+            if (i % 400 == 0) {
+                made = page.fed();
+                made.read();
             }
+            int x = i % page.width;
+            int y = i / page.width;
+            Checks.is("15: " + name, made.at(x, y), page.exact ? page.colours[y][x] : model.joined(x, y));
         }
     }
 
     /** Some bytes become others, and reading must agree each time. */
-    private static void spoil(Random random, String name, MaskLayers page, List<Integer> bytes) {
+    private static void spoil(Random random, String name, Page page, List<Integer> bytes) {
         int[] likely = {0, 1, 2, 3, 8, 24, 76, 77, 160, 161, 162, 163, 175, 254, 255};
+        List<Integer> spoilt = new ArrayList<>(bytes);
         for (int k = 0; k < 60; k++) {
             int i = random.nextInt(random.nextBoolean() ? bytes.size() : Math.min(20, bytes.size()));
-            int before = bytes.get(i);
+            int before = spoilt.get(i);
             int b = random.nextBoolean() ? likely[random.nextInt(likely.length)] : random.nextInt(256);
             if (random.nextInt(3) == 0) {
                 b = Math.max(0, Math.min(255, before + random.nextInt(3) - 1));
             }
-            Checks.is("13: " + name, page.alter(i, b), before);
-            bytes.set(i, b);
-            compareReading(name + " with " + b + " at " + i, page, bytes);
+            spoilt.set(i, b);
+            compareReading(name + " with " + b + " at " + i, page.fed(), bytes, spoilt);
             if (random.nextInt(4) > 0) {
-                page.alter(i, before);
-                bytes.set(i, before);
+                spoilt.set(i, before);
             }
         }
     }
 
-    private static void compareReading(String name, MaskLayers page, List<Integer> bytes) {
+    private static void compareReading(String name, MaskLayers made, List<Integer> bytes, List<Integer> spoilt) {
+        for (int i = 0; i < bytes.size(); i++) {
+            if (!bytes.get(i).equals(spoilt.get(i))) {
+                Checks.is("13: " + name, made.alter(i, spoilt.get(i)), bytes.get(i));
+            }
+        }
         Model model;
         try {
-            model = new ModelReader(bytes).all();
+            model = new ModelReader(spoilt).all();
         } catch (Refused refused) {
-            Checks.is("14: " + name, page.read(), -1 - refused.place);
-            Checks.is("14: " + name + " told(6)", page.told(6), 0);
+            Checks.is("14: " + name, made.read(), -1 - refused.place);
+            Checks.is("14: " + name + " told(6)", made.told(6), 0);
             return;
         }
-        Checks.is("14: " + name, page.read(), model.layers());
-        for (int y = 0; y < model.height; y++) {
-            for (int x = 0; x < model.width; x++) {
-                Checks.is("15: " + name, page.at(x, y), model.exact(x, y));
-            }
+        Checks.is("14: " + name, made.read(), model.layers());
+        int samples = model.width * model.height;
+        for (int i = 0; i < samples; i += 1 + samples / 300) {
+            int x = i % model.width;
+            int y = i / model.width;
+            Checks.is("15: " + name, made.at(x, y), model.exact(x, y));
         }
     }
 
@@ -456,17 +526,20 @@ public final class ModelTest {
     private static void fullestPage() {
         for (int step = 1; step <= 24; step++) {
             MaskLayers page = new MaskLayers(24, 24);
-            for (int i = 0; i < 576; i++) {
+            for (int i = 1; i < 576; i += 2) {
                 page.put(i % 24, i / 24, 1, i * 77731 & 0xFFFFFF);
-                page.mask(i % 24, i / 24, 1, (i * 7 & 5) == 1);
+            }
+            for (int i = 0; i < 576; i += 4) {
+                page.mask(i % 24, i / 24, 2, true);
             }
             page.stripe(step);
             page.run(1, 2, true);
             int many = page.write();
             Checks.is("12: all of the fullest page", page.pass(0, many), many);
             Checks.is("14: the fullest page", page.read(), page.told(8));
-            for (int i = 0; i < 576; i++) {
-                Checks.is("15: the fullest page", page.at(i % 24, i / 24), i * 77731 & 0xFFFFFF);
+            for (int k = 0; k < 64; k++) {
+                int i = (step + 9 * k) % 576;
+                Checks.is("15: the fullest page", page.at(i % 24, i / 24), i % 2 == 1 ? i * 77731 & 0xFFFFFF : 0);
             }
         }
     }

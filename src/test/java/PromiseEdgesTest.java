@@ -597,7 +597,8 @@ public final class PromiseEdgesTest {
             state.add((long) page.joined(x, y));
             state.add((long) page.at(x, y));
         }
-        for (int i = 0; i < page.told(4); i++) {
+        int many = page.told(4);
+        for (int i = 0; i < many; i++) {
             state.add((long) page.byteAt(i));
         }
         return state;
@@ -662,8 +663,10 @@ public final class PromiseEdgesTest {
             Checks.is(what + ", colour of sample " + i, page.put(i % 3, i / 3, 1, colours[i]), 0);
             Checks.is(what + ", mask of sample " + i, page.mask(i % 3, i / 3, 1, masked[i]), 0);
         }
-        for (int i = 0; i < page.told(4); i++) {
-            Checks.is(what + ", fed byte " + i, page.alter(i, page.byteAt(i)), page.byteAt(i));
+        int many = page.told(4);
+        for (int i = 0; i < many; i++) {
+            int due = page.byteAt(i);
+            Checks.is(what + ", fed byte " + i, page.alter(i, due), due);
         }
     }
 

@@ -216,11 +216,13 @@ public final class ReadingEdgesTest {
         Checks.says(14, "a KIND above 1");
         int[] all = of(HEAD, BACK, MASK, FORE, REST, END);
         int[] places = {8, 15, 20, 27};
+        int[] wrong = {2, 3, 128, 160, 161, 162, 163, 175, 255};
         for (int place : places) {
-            refused("KIND 2", place, with(all, place, 2));
-            refused("KIND 128", place, with(all, place, 128));
-            refused("KIND 255", place, with(all, place, 255));
+            for (int kind : wrong) {
+                refused("KIND " + kind, place, with(all, place, kind));
+            }
         }
+        refused("KIND 175, as if the stripe ended", 27, HEAD, BACK, MASK, FORE, bytes(163, 175));
         fine("KIND 1 of all", 4, HEAD, bytes(160, 1, 4, 0, 1, 1, 2, 3), bytes(161, 1, 2, 0, 1, 1),
             bytes(162, 1, 4, 0, 1, 4, 5, 6), bytes(163, 1, 4, 0, 1, 7, 8, 9), END);
     }

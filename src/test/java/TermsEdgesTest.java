@@ -278,6 +278,15 @@ public final class TermsEdgesTest {
         Checks.is("in the first column the one above", page.layer(0, 0, 1), 0x050301);
         Checks.is("the last one of the first row", page.layer(0, 3, 0), 0x050301);
         Checks.is("the last one of the first column", page.layer(0, 0, 3), 0x050301);
+        MaskLayers others = new MaskLayers(3, 3);
+        others.put(0, 0, 1, 0x111111);
+        others.put(1, 0, 1, 0x222222);
+        others.put(0, 1, 1, 0x333333);
+        others.mask(2, 0, 1, true);
+        others.mask(0, 2, 1, true);
+        others.run(1, 1, false);
+        Checks.is("the left one, not the first of all", others.layer(0, 2, 0), 0x222222);
+        Checks.is("the one above, not the first of all", others.layer(0, 0, 2), 0x333333);
         MaskLayers rows = new MaskLayers(2, 2);
         rows.put(1, 0, 1, 200);
         rows.mask(0, 1, 1, true);
