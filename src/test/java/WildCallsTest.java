@@ -54,15 +54,16 @@ public final class WildCallsTest {
             case 14: mayThrow(() -> page.alter(a, b), PLACE, ARGUMENT); break;
             case 15: mayThrow(() -> page.read()); break;
             case 16: mayThrow(() -> page.at(a, b), STATE, PLACE); break;
-            default: mayThrow(() -> seldomClear(r, page, a)); break;
+            default: mayThrow(() -> toldOrClear(r, page, a)); break;
         }
     }
 
-    private static int seldomClear(Random r, MaskLayers page, int what) {
-        if (r.nextInt(4) == 0) {
-            page.clear();
+    private static int toldOrClear(Random r, MaskLayers page, int what) {
+        if (r.nextInt(4) > 0) {
+            return page.told(what);
         }
-        return page.told(what);
+        page.clear();
+        return 0;
     }
 
     private static void mayThrow(Checks.Call call, String... names) {
