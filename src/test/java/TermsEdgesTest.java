@@ -24,6 +24,7 @@ public final class TermsEdgesTest {
         layersStay();
         headWritten();
         layersWritten();
+        valuesByRows();
         numberWritten();
         endWritten();
         maskInBits();
@@ -460,6 +461,18 @@ public final class TermsEdgesTest {
             160, 0, 3, 0, 0, 0, 1, 163, 0, 6, 0, 0, 0, 1, 0, 0, 255, 175,
             160, 0, 3, 0, 0, 0, 0, 161, 0, 1, 0, 64, 162, 0, 3, 0, 0, 0, 7, 175,
             161, 0, 1, 0, 192, 162, 0, 3, 0, 1, 0, 0, 163, 0, 6, 0, 255, 0, 0, 0, 0, 0, 175);
+    }
+
+    private static void valuesByRows() {
+        Checks.says(9, "VALUES are by rows");
+        MaskLayers page = new MaskLayers(3, 3);
+        page.put(2, 0, 1, 0x010203);
+        page.put(0, 2, 1, 0x040506);
+        page.put(2, 2, 1, 0x070809);
+        page.run(1, 2, false);
+        page.write();
+        Checks.written("blocks", page, 77, 76, 3, 3, 24, 1, 2,
+            160, 0, 12, 0, 0, 0, 0, 1, 1, 2, 2, 3, 3, 7, 8, 9, 175);
     }
 
     /** Every other sample of a page has another colour, so that no run is longer than one. */
