@@ -303,21 +303,16 @@ public final class MaskLayers {
         private final int[][] values;
         /** For each stripe a bit for each layer that it has. */
         private final int[] there;
-        /** For each layer its SCALE; MASK and REST count as layers of blocks of one sample. */
-        private final int[] scales;
-        /** For each layer how many blocks stand side by side. */
-        private final int[] columns;
         private int width;
         private int height;
         private int step;
+        private int foreScale;
+        private int backScale;
         private int count;
 
         Layers(int samples) {
             values = new int[REST + 1][samples];
             there = new int[LONGEST_SIDE];
-            scales = new int[] {1, 1, 1, 1};
-            columns = new int[REST + 1];
-            step = 1;
         }
 
         void forget() {
@@ -329,20 +324,37 @@ public final class MaskLayers {
             this.width = width;
             this.height = height;
             this.step = step;
-            scales[FORE] = foreScale;
-            scales[BACK] = backScale;
-            for (int layer = BACK; layer <= REST; layer++) {
-                columns[layer] = parts(width, scales[layer]);
-            }
+            this.foreScale = foreScale;
+            this.backScale = backScale;
+        }
+
+        private boolean holdsStripe(int stripe) {
+            return stripe >= 0 && stripe < there.length;
         }
 
         void add(int stripe, int layer) {
-            there[stripe] |= 1 << layer;
-            count++;
+            if (holdsStripe(stripe)) {
+                there[stripe] |= 1 << layer;
+                count++;
+            }
         }
 
         boolean has(int stripe, int layer) {
-            return (there[stripe] >> layer & 1) == 1;
+            return holdsStripe(stripe) && (there[stripe] >> layer & 1) == 1;
+        }
+
+        private boolean holdsPlace(int layer, int place) {
+            return layer >= 0 && layer < values.length && place >= 0 && place < values[layer].length;
+        }
+
+        int value(int layer, int place) {
+            return holdsPlace(layer, place) ? values[layer][place] : NONE;
+        }
+
+        void set(int layer, int place, int value) {
+            if (holdsPlace(layer, place)) {
+                values[layer][place] = value;
+            }
         }
 
         boolean hasSample(int x, int y) {
@@ -366,9 +378,19 @@ public final class MaskLayers {
             return Math.min(stripe * step + step, height);
         }
 
+        /** MASK and REST count as layers of blocks of one sample, so that all four are held alike. */
+        int scaleOf(int layer) {
+            return layer == FORE ? foreScale : layer == BACK ? backScale : 1;
+        }
+
+        /** How many blocks of a layer stand side by side. */
+        int columnsOf(int layer) {
+            return parts(width, scaleOf(layer));
+        }
+
         /** How many blocks of a layer stand one above another in a stripe. */
         int rowsOf(int stripe, int layer) {
-            return parts(Math.min(step, height - stripe * step), scales[layer]);
+            return parts(bottomOf(stripe) - topOf(stripe), scaleOf(layer));
         }
 
         /** Where a stripe's values begin, in each of the layers. */
@@ -378,21 +400,21 @@ public final class MaskLayers {
 
         /** The place behind a stripe's last value in a layer. */
         int endOf(int stripe, int layer) {
-            return startOf(stripe) + columns[layer] * rowsOf(stripe, layer);
+            return startOf(stripe) + columnsOf(layer) * rowsOf(stripe, layer);
         }
 
-        /** The place of a sample's value in a layer. */
+        /** The place of a sample's value in a layer; NONE while the layers have no shape. */
         int placeOf(int layer, int x, int y) {
-            int scale = scales[layer];
+            int scale = scaleOf(layer);
             if (scale < 1) {
-                return 0;
+                return NONE;
             }
-            int top = stripeOf(y) * step;
-            return top * width + (y - top) / scale * columns[layer] + x / scale;
+            int top = topOf(stripeOf(y));
+            return top * width + (y - top) / scale * columnsOf(layer) + x / scale;
         }
 
         int valueAt(int layer, int x, int y) {
-            return has(stripeOf(y), layer) ? values[layer][placeOf(layer, x, y)] : NONE;
+            return has(stripeOf(y), layer) ? value(layer, placeOf(layer, x, y)) : NONE;
         }
 
         int joinedAt(int x, int y) {
@@ -431,7 +453,20 @@ public final class MaskLayers {
         }
 
         boolean wasFilled(int layer, int x, int y) {
-            return layers.has(layers.stripeOf(y), layer) && (bare[layers.placeOf(layer, x, y)] >> layer & 1) == 1;
+            int place = layers.placeOf(layer, x, y);
+            return layers.has(layers.stripeOf(y), layer) && holds(bare, place) && (bare[place] >> layer & 1) == 1;
+        }
+
+        private static boolean holds(int[] row, int place) {
+            return place >= 0 && place < row.length;
+        }
+
+        private boolean isMasked(int place) {
+            return holds(masked, place) && masked[place] == 1;
+        }
+
+        private int colourAt(int place) {
+            return holds(colours, place) ? colours[place] : 0;
         }
 
         private void makeStripe(int stripe, boolean exact) {
@@ -454,24 +489,25 @@ public final class MaskLayers {
         private int takeMask(int stripe) {
             int inFront = 0;
             int end = layers.endOf(stripe, MASK);
-            for (int i = layers.startOf(stripe); i < end; i++) {
-                layers.values[MASK][i] = masked[i];
-                inFront += masked[i];
+            for (int place = layers.startOf(stripe); place < end; place++) {
+                int value = isMasked(place) ? 1 : 0;
+                layers.set(MASK, place, value);
+                inFront += value;
             }
             return inFront;
         }
 
         /** Gives blocks their means, NONE to those to be FILLED: the first mean. */
         private int makeBlocks(int stripe, int layer) {
-            int[] blocks = layers.values[layer];
             int rows = layers.rowsOf(stripe, layer);
-            int columns = layers.columns[layer];
+            int columns = layers.columnsOf(layer);
             int place = layers.startOf(stripe);
             int first = NONE;
             for (int row = 0; row < rows; row++) {
                 for (int column = 0; column < columns; column++) {
-                    blocks[place] = meanOfBlock(stripe, layer, column, row);
-                    first = first == NONE ? blocks[place] : first;
+                    int mean = meanOfBlock(stripe, layer, column, row);
+                    layers.set(layer, place, mean);
+                    first = first == NONE ? mean : first;
                     place++;
                 }
             }
@@ -480,24 +516,24 @@ public final class MaskLayers {
 
         /** The mean of those samples of a block that the layer is of; NONE if there are none. */
         private int meanOfBlock(int stripe, int layer, int column, int row) {
-            int scale = layers.scales[layer];
+            int scale = layers.scaleOf(layer);
             int top = layers.topOf(stripe) + row * scale;
             int bottom = Math.min(top + scale, layers.bottomOf(stripe));
             int left = column * scale;
             int right = Math.min(left + scale, layers.width);
-            int side = layer == FORE ? 1 : 0;
             int many = 0;
             int red = 0;
             int green = 0;
             int blue = 0;
             for (int y = top; y < bottom; y++) {
-                int end = y * layers.width + right;
-                for (int i = y * layers.width + left; i < end; i++) {
-                    if (masked[i] == side) {
+                for (int x = left; x < right; x++) {
+                    int place = y * layers.width + x;
+                    if (isMasked(place) == (layer == FORE)) {
+                        int colour = colourAt(place);
                         many++;
-                        red += red(colours[i]);
-                        green += green(colours[i]);
-                        blue += blue(colours[i]);
+                        red += red(colour);
+                        green += green(colour);
+                        blue += blue(colour);
                     }
                 }
             }
@@ -505,16 +541,15 @@ public final class MaskLayers {
         }
 
         private void fillBlocks(int stripe, int layer, int first) {
-            int[] blocks = layers.values[layer];
             int rows = layers.rowsOf(stripe, layer);
-            int columns = layers.columns[layer];
+            int columns = layers.columnsOf(layer);
             int place = layers.startOf(stripe);
             for (int row = 0; row < rows; row++) {
                 for (int column = 0; column < columns; column++) {
-                    if (blocks[place] == NONE) {
-                        int left = column > 0 ? blocks[place - 1] : NONE;
-                        int above = row > 0 ? blocks[place - columns] : NONE;
-                        blocks[place] = fillBetween(left, above, first);
+                    if (layers.value(layer, place) == NONE && holds(bare, place)) {
+                        int left = column > 0 ? layers.value(layer, place - 1) : NONE;
+                        int above = row > 0 ? layers.value(layer, place - columns) : NONE;
+                        layers.set(layer, place, fillBetween(left, above, first));
                         bare[place] |= 1 << layer;
                     }
                     place++;
@@ -539,10 +574,10 @@ public final class MaskLayers {
             int bottom = layers.bottomOf(stripe);
             for (int y = layers.topOf(stripe); y < bottom; y++) {
                 for (int x = 0; x < layers.width; x++) {
-                    int layer = masked[place] == 1 ? FORE : BACK;
-                    int joined = layers.values[layer][layers.placeOf(layer, x, y)];
-                    int rest = difference(colours[place], joined);
-                    layers.values[REST][place] = rest;
+                    int layer = isMasked(place) ? FORE : BACK;
+                    int joined = layers.value(layer, layers.placeOf(layer, x, y));
+                    int rest = difference(colourAt(place), joined);
+                    layers.set(REST, place, rest);
                     needed = needed || rest != 0;
                     place++;
                 }
@@ -623,15 +658,15 @@ public final class MaskLayers {
             bytes.append(layers.width);
             bytes.append(layers.height);
             bytes.append(layers.step);
-            bytes.append(layers.scales[FORE]);
-            bytes.append(layers.scales[BACK]);
+            bytes.append(layers.foreScale);
+            bytes.append(layers.backScale);
         }
 
         private void writeLayer(int stripe, int layer) {
             int start = layers.startOf(stripe);
             int end = layers.endOf(stripe, layer);
             int plain = plainBytes(layer, end - start);
-            int inRuns = countRuns(layers.values[layer], start, end) * (layer == MASK ? 2 : 4);
+            int inRuns = countRuns(layer, start, end) * (layer == MASK ? 2 : 4);
             bytes.append(FIRST_MARK + layer);
             bytes.append(inRuns < plain ? RUNS : PLAIN);
             bytes.append(Math.min(inRuns, plain) & 255);
@@ -645,12 +680,12 @@ public final class MaskLayers {
             }
         }
 
-        private static int countRuns(int[] values, int start, int end) {
+        private int countRuns(int layer, int start, int end) {
             int runs = 0;
             int length = 0;
             for (int i = start; i < end; i++) {
                 length++;
-                if (runEnds(values, i, end, length)) {
+                if (runEnds(layer, i, end, length)) {
                     runs++;
                     length = 0;
                 }
@@ -659,29 +694,27 @@ public final class MaskLayers {
         }
 
         /** Whether a run that is this long at value i can't go on. */
-        private static boolean runEnds(int[] values, int i, int end, int length) {
-            return i + 1 >= end || length >= LONGEST_RUN || values[i + 1] != values[i];
+        private boolean runEnds(int layer, int i, int end, int length) {
+            return i + 1 >= end || length >= LONGEST_RUN || layers.value(layer, i + 1) != layers.value(layer, i);
         }
 
         private void writeRuns(int layer, int start, int end) {
-            int[] values = layers.values[layer];
             int length = 0;
             for (int i = start; i < end; i++) {
                 length++;
-                if (runEnds(values, i, end, length)) {
+                if (runEnds(layer, i, end, length)) {
                     bytes.append(length);
-                    writeValue(layer, values[i]);
+                    writeValue(layer, layers.value(layer, i));
                     length = 0;
                 }
             }
         }
 
         private void writeBits(int start, int end) {
-            int[] values = layers.values[MASK];
             for (int i = start; i < end; i += 8) {
                 int bits = 0;
                 for (int k = i; k < i + 8; k++) {
-                    bits = bits << 1 | (k < end ? values[k] : 0);
+                    bits = bits << 1 | (k < end ? layers.value(MASK, k) : 0);
                 }
                 bytes.append(bits);
             }
@@ -689,7 +722,7 @@ public final class MaskLayers {
 
         private void writeValues(int layer, int start, int end) {
             for (int i = start; i < end; i++) {
-                writeValue(layer, layers.values[layer][i]);
+                writeValue(layer, layers.value(layer, i));
             }
         }
 
@@ -836,7 +869,7 @@ public final class MaskLayers {
                         return false;
                     }
                 }
-                layers.values[layer][i] = value;
+                layers.set(layer, i, value);
                 left--;
             }
             return true;
@@ -851,7 +884,7 @@ public final class MaskLayers {
                 for (int k = 0; k < 8; k++) {
                     int bit = bits >> 7 - k & 1;
                     if (i + k < end) {
-                        layers.values[MASK][i + k] = bit;
+                        layers.set(MASK, i + k, bit);
                     } else if (bit == 1) {
                         return refuse(place - 1);
                     }
@@ -866,7 +899,7 @@ public final class MaskLayers {
                 if (value == NONE) {
                     return false;
                 }
-                layers.values[layer][i] = value;
+                layers.set(layer, i, value);
             }
             return true;
         }

@@ -6,7 +6,9 @@ import java.nio.file.Files;
 import java.nio.file.Path;
 import java.util.ArrayList;
 import java.util.List;
+import java.util.Map;
 import java.util.Set;
+import java.util.TreeMap;
 import java.util.TreeSet;
 import java.util.regex.Matcher;
 import java.util.regex.Pattern;
@@ -27,7 +29,7 @@ public final class RulesTest {
         String code = source.replaceAll("(?s)/\\*.*?\\*/", "").replaceAll("//[^\n]*", "").replaceAll("\"[^\"\n]*\"", "\"\"");
         words(code);
         throwsOnly(code);
-        lengths(source.split("\n"));
+        methods(source.split("\n"));
         List<Class<?>> classes = new ArrayList<>(List.of(MaskLayers.class.getDeclaredClasses()));
         classes.add(MaskLayers.class);
         Checks.is("rule 11: classes", classes.size() <= 12, true);
@@ -56,22 +58,51 @@ public final class RulesTest {
     }
 
     /** A method's lines go from its head to the brace that stands under the head's first letter. */
-    private static void lengths(String[] lines) {
-        Pattern head = Pattern.compile("( +)(public |private |static |final )*[\\w\\[\\]]+ \\w+\\(.*\\).*\\{");
-        int methods = 0;
+    private static void methods(String[] lines) {
+        Pattern head = Pattern.compile("( +)(public |private |static |final )*[\\w\\[\\]]+ (\\w+)\\(.*\\).*\\{");
+        Map<String, Set<String>> calls = new TreeMap<>();
         for (int i = 0; i < lines.length; i++) {
             Matcher m = head.matcher(lines[i]);
-            if (!m.matches() || lines[i].contains(" else ") || lines[i].contains(" new ")) {
+            if (!m.matches()) {
                 continue;
             }
-            int end = i;
+            // Methods of one name count as one, so that the depth told is never below the true one.
+            Set<String> called = calls.computeIfAbsent(m.group(3), k -> new TreeSet<>());
+            int end = i + 1;
             while (!lines[end].equals(m.group(1) + "}")) {
+                addCalls(lines[end], called);
                 end++;
             }
-            methods++;
             Checks.is("rule 11: lines of " + lines[i].trim(), end - i < 60, true);
         }
-        Checks.is("rule 11: methods were found", methods > 50, true);
+        for (String name : names(MaskLayers.class, true)) {
+            Checks.is("rule 11: " + name + " was found", calls.containsKey(name), true);
+            int deep = depthOf(name, calls, new TreeSet<>());
+            Checks.is("rules 8, 11: " + deep + " calls stand open in " + name + ", at most eight", deep <= 8, true);
+        }
+    }
+
+    private static void addCalls(String line, Set<String> called) {
+        Matcher m = Pattern.compile("\\b(\\w+)\\(").matcher(line);
+        while (m.find()) {
+            called.add(m.group(1));
+        }
+    }
+
+    /** How many methods of the class stand open at most from this one on; far too many if they go in a circle. */
+    private static int depthOf(String method, Map<String, Set<String>> calls, Set<String> open) {
+        if (!calls.containsKey(method)) {
+            return 0;
+        }
+        if (!open.add(method)) {
+            return 1000;
+        }
+        int deepest = 0;
+        for (String called : calls.get(method)) {
+            deepest = Math.max(deepest, depthOf(called, calls, open));
+        }
+        open.remove(method);
+        return deepest + 1;
     }
 
     private static Set<String> names(Class<?> c, boolean seen) {
